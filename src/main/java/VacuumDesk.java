@@ -11,7 +11,7 @@ public final class VacuumDesk {
 
     private static final int ENDLESS = -2;
     private static final int HUNTED = -3;
-    private static final int NO_FLOW = Integer.MIN_VALUE;
+    private static final int NO_FLOW = -2147483648;
 
     private static final int MOST_CHAMBERS = 5;
     private static final int MOST_TUBES = 10;

@@ -103,7 +103,7 @@ public final class LanguageTest {
         while (imports.find()) must(imports.group(1).equals("java.util.Arrays"), "rule 4: import " + imports.group(1));
         Matcher library = Pattern.compile("\\b(Arrays|System|Math|Integer|Long)\\.(\\w+)").matcher(source);
         Set<String> known = Set.of("Arrays.fill", "System.arraycopy", "Math.max", "Math.min", "Math.abs", "Integer.bitCount",
-            "Integer.numberOfTrailingZeros", "Integer.MIN_VALUE");
+            "Integer.numberOfTrailingZeros");
         while (library.find()) must(known.contains(library.group()), "rule 4: " + library.group());
         for (int i = 0; i < source.length(); i++) must(source.charAt(i) < 128, "rule 4: a sign above 127 at " + i);
     }

@@ -52,6 +52,9 @@ public final class PromisesTest {
         S.calls("chamber(0, 0)", "chamber(0, 0)", "pump(0, 40)", "pump(0, 40)", "pump(0, 39)");
         S.dues("tube(0, 1, 2, 0, 0) = -5", "tube(1, 0, 2, 0, 0) = -5", "tube(1, 0, 1, 0, 0) = 0", "ofChamber(0, 4) = 120",
             "tube(1, 0, 1, 0, 0) = -5", "count(16) = 3");
+        S.fresh(3);
+        S.calls("chamber(0, 0)", "chamber(0, 0)", "pump(0, 40)", "pump(0, 40)", "pump(0, 39)");
+        S.dues("tube(0, 1, 1, 0, 0) = 0", "tube(0, 1, 1, 0, 0) = -5", "ofChamber(1, 4) = 1");
     }
 
     private static void pump() {
@@ -128,6 +131,10 @@ public final class PromisesTest {
         S.fresh(10);
         S.calls("watch(1, 0, 5, 3, 0)", "watch(2, 0, 0, 0, 0)", "watch(2, 0, 0, 2, 0)", "watch(2, 0, 0, 4, 0)");
         S.dues("lookout() = 14", "steps(2) = 0");
+        S.fresh(10);
+        S.calls("chamber(5, 0)", "chamber(5, 0)", "tube(0, 1, 1, 0, 0)", "pump(0, 5)", "watch(2, 0, 0, 1, 1)", "watch(2, 0, 0, 3, 1)",
+            "watch(2, 0, 0, 0, 1)", "watch(2, 0, 0, 2, 1)", "watch(2, 0, 0, 4, 2)", "watch(1, 2, 99999999, 0, 0)");
+        S.dues("lookout() = 31", "steps(2) = 0", "ofWatch(0, 5) = 0", "ofWatch(1, 5) = 0", "ofWatch(5, 5) = 0");
         S.fresh(11);
         for (int i = 0; i < 4; i++) S.call("watch(2, 0, " + i + ", 0, 0)");
         S.dues("drop(4) = -2", "drop(-1) = -2", "drop(1) = 3", "ofWatch(0, 2) = 0", "ofWatch(1, 2) = 2", "ofWatch(2, 2) = 3",
@@ -219,6 +226,9 @@ public final class PromisesTest {
         S.fresh(15);
         S.calls("chamber(5, 0)", "pump(0, 5)", "steps(2)", "set(0, 0, 10)", "steps(40)");
         S.dues("log(0, 39) = 2000", "log(0, 40) = -1", "undo() = 10", "count(8) = 2", "log(0, 0) = 1000", "log(0, 1) = 1000", "log(0, 2) = -1");
+        S.calls("steps(38)", "set(0, 0, 15)", "steps(40)", "undo()");
+        for (int ago = 0; ago < 38; ago++) S.due("log(0, " + ago + ")", 2000);
+        S.dues("log(0, 38) = 1000", "log(0, 39) = 1000", "count(8) = 40");
     }
 
     private static void images() {
@@ -274,7 +284,8 @@ public final class PromisesTest {
         S.fresh(21);
         S.calls("chamber(12, 0)", "pump(0, 4)", "curve(0, 2, 0)");
         S.dues("stage(0) = 2", "drawn(0, 0) = -2", "drawn(0, 1) = -2", "reading(0) = 99999999", "set(0, 0, 0) = 12", "stage(0) = 0",
-            "drawn(0, 0) = 0", "drawn(0, 1) = 1");
+            "drawn(0, 0) = 0", "drawn(0, 1) = 1", "curve(0, 0, 0) = 4", "stage(0) = 0", "count(12) = 1", "pressure(0, 0) = 0",
+            "pressure(0, 1) = 1", "drawn(0, 0) = 0");
         hunting(21);
         S.dues("drawn(0, 0) = -3", "drawn(0, 1) = -3", "pump(0, 1) = 1", "run(1) = 0", "count(11) = 1", "drawn(1, 0) = -3", "stage(1) = -3");
         S.fresh(22);
@@ -356,6 +367,16 @@ public final class PromisesTest {
         threeInARow(26);
         S.calls("tube(0, 1, 12, 0, 0)");
         S.dues("note(2, 4000) = -1", "suspects(0) = 6", "probe(0) = 1", "probe(1) = 4");
+        // only chamber 0 is noted: 4 at chamber 1, 9 at chamber 2 bring it 1.8 more; tube 2, open, tells them apart
+        threeInARow(26);
+        S.calls("tube(0, 2, 1, 0, 0)", "turn(2)");
+        S.dues("note(0, 12300) = -1", "suspects(0) = 2", "suspects(1) = 1", "suspects(2) = 4", "suspects(3) = 2", "probe(0) = 2",
+            "probe(1) = 1", "note(0, -1) = 12300", "note(1, 7300) = -1", "suspects(0) = 4", "probe(0) = 2", "probe(1) = 1");
+        // those by which it hunts belong together, apart from the others, even when nothing is noted
+        S.fresh(26);
+        S.calls("chamber(0, 0)", "chamber(0, 0)", "pump(1, 4)", "curve(0, 4, 9)", "curve(0, 3, 5)", "curve(0, 0, 2)",
+            "tube(0, 1, 1, 0, 0)", "turn(0)");
+        S.dues("suspects(0) = 150", "probe(0) = 0", "probe(1) = 10", "note(1, 0) = -1", "suspects(0) = 60", "probe(1) = 10");
         // nothing noted: the first twenty belong together by any tube
         threeInARow(26);
         S.dues("probe(0) = 0", "probe(1) = 20");
@@ -409,10 +430,17 @@ public final class PromisesTest {
         S.fresh(30);
         S.calls("chamber(10, 0)", "chamber(6, 0)", "tube(0, 1, 2, 0, 0)", "pump(1, 4)");
         S.dues("fed(0, -1) = -1", "fed(2, 5) = -1", "fed(-1, 5) = -1", "reading(0) = 9000", "fed(0, 9000) = 10", "fed(0, 8999) = 9",
-            "fed(1, 9000) = 6", "fed(0, 1499) = -1", "fed(0, 1500) = 0", "fed(0, 75750) = 99", "fed(0, 75749) = 98", "ofChamber(0, 0) = 10");
+            "fed(1, 9000) = 6", "fed(0, 99999999) = 99", "fed(0, 0) = -1", "fed(0, 1499) = -1", "fed(0, 1500) = 0", "fed(0, 75750) = 99", "fed(0, 75749) = 98", "ofChamber(0, 0) = 10");
         // it can fit again above a hole where it hunts: 2 below 5, 4 from there on
         hunting(30);
         S.dues("fed(0, 4999) = 9", "fed(0, 5000) = 20", "fed(0, 5750) = 23");
+        S.fresh(30);
+        S.calls("chamber(10, 0)", "pump(0, 5)");
+        S.dues("fed(0, 0) = 0", "fed(0, 199) = 0", "fed(0, 200) = 1");
+        S.fresh(31);
+        S.calls("chamber(0, 0)", "pump(0, 5)");
+        S.dues("bears(0, 0) = 0", "bears(0, 199) = 0", "bears(0, 200) = 1", "bears(1, 99999999) = -1", "bears(9, 99999999) = -1",
+            "bears(10, 99999999) = -1");
         S.fresh(31);
         S.calls("chamber(10, 0)", "chamber(6, 0)", "tube(0, 1, 2, 0, 0)", "pump(1, 4)", "leak(0, 60)");
         S.dues("bears(0, -1) = -1", "bears(2, 5) = -1", "bears(-1, 5) = -1", "bears(11, 5) = -1", "bears(0, 9000) = 0",
