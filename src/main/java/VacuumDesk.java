@@ -1108,7 +1108,8 @@ public final class VacuumDesk {
         private final int[] fresh;
         private final long[][] inverse;
         private final long[] determinant;
-        private final boolean[] inverted;
+        /** The rows of stages whose matrices are inverted already, as bits. */
+        private int inverted;
         /** For each row of stages the chambers of nets without speed, as bits. */
         private final int[] still;
         private final int[] netOf;
@@ -1124,7 +1125,6 @@ public final class VacuumDesk {
             fresh = new int[KEY];
             inverse = new long[ROWS][CELLS];
             determinant = new long[ROWS];
-            inverted = new boolean[ROWS];
             still = new int[ROWS];
             netOf = new int[MOST_CHAMBERS];
             speed = new int[MOST_CHAMBERS];
@@ -1141,7 +1141,7 @@ public final class VacuumDesk {
             }
             System.arraycopy(fresh, 0, key, 0, KEY);
             if (otherShape) {
-                Arrays.fill(inverted, false);
+                inverted = 0;
                 for (int c = 0; c < line.chambers; c++) {
                     netOf[c] = line.net(c);
                 }
@@ -1269,7 +1269,7 @@ public final class VacuumDesk {
 
         /** Asked of a row that has been prepared; one that cannot be is never inverted. */
         private boolean agrees(int r) {
-            if (!inverted[r]) {
+            if (!isInverted(r)) {
                 return false;
             }
             for (int p = 0; p < MOST_PUMPS; p++) {
@@ -1326,7 +1326,7 @@ public final class VacuumDesk {
         }
 
         private void prepare(int r) {
-            if (inverted[r] || !canBe(r)) {
+            if (isInverted(r) || !canBe(r)) {
                 return;
             }
             Arrays.fill(speed, 0);
@@ -1339,7 +1339,11 @@ public final class VacuumDesk {
             still[r] = netsWithoutSpeed();
             fillMatrix(r);
             determinant[r] = Numbers.invert(inverse[r], key[0]);
-            inverted[r] = true;
+            inverted |= 1 << r;
+        }
+
+        private boolean isInverted(int r) {
+            return (inverted >> r & 1) != 0;
         }
 
         private int netsWithoutSpeed() {

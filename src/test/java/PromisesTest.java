@@ -5,16 +5,16 @@ public final class PromisesTest {
     private PromisesTest() {
     }
 
-    /** Chamber 0 (feed 10) - C 2 - chamber 1 - C 4 - chamber 2 (feed 5), a pump of 5 at chamber 2. */
     private static void threeInARow(int promise) {
-        S.fresh(promise);
-        S.calls("chamber(10, 0)", "chamber(0, 640)", "chamber(5, 0)", "tube(0, 1, 6, 3, 0)", "tube(1, 2, 4, 0, 0)", "pump(2, 5)");
+        S.fresh(promise, Script.THREE_IN_A_ROW);
     }
 
-    /** A line that hunts: 12 come in; with 2 the pressure is 6, with 4 it is 3, the bound is 5. */
     private static void hunting(int promise) {
-        S.fresh(promise);
-        S.calls("chamber(12, 0)", "pump(0, 4)", "curve(0, 4, 9)", "curve(0, 3, 5)", "curve(0, 0, 2)");
+        S.fresh(promise, Script.HUNTING);
+    }
+
+    private static void bridge(int promise) {
+        S.fresh(promise, Script.BRIDGE);
     }
 
     private static void newObject() {
@@ -328,12 +328,6 @@ public final class PromisesTest {
         S.dues("reduced(0, 1, 0) = 6", "reduced(0, 1, 1) = 0");
     }
 
-    private static void bridge(int promise) {
-        S.fresh(promise);
-        S.calls("chamber(0, 0)", "chamber(0, 0)", "chamber(0, 0)", "chamber(0, 0)", "tube(0, 1, 1, 0, 0)", "tube(0, 2, 1, 0, 0)",
-            "tube(1, 3, 1, 0, 0)", "tube(2, 3, 1, 0, 0)", "tube(1, 2, 1, 0, 0)");
-    }
-
     private static void seeking() {
         S.fresh(25);
         S.dues("suspects(0) = 0", "suspects(1) = -1", "suspects(2) = -1", "suspects(3) = 0", "suspects(4) = 0", "suspects(5) = -1",
@@ -592,7 +586,6 @@ public final class PromisesTest {
         whatStands();
         counts();
         statusAfterEach();
-        System.out.println("PromisesTest: " + S.asked + " answers asked, " + S.wrong + " wrong");
-        if (S.wrong != 0) System.exit(1);
+        S.close("PromisesTest");
     }
 }
