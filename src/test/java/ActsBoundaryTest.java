@@ -164,6 +164,15 @@ public final class ActsBoundaryTest {
         S.dues("set(1, 2, 3) = 0", "chamber(0, 0) = 2", "set(2, 2, 3) = 0", "tube(0, 2, 1, 0, 0) = 1", "pump(1, 1) = 1", "steps(1) = 4",
             "ofWatch(0, 5) = 1", "ofWatch(1, 5) = 0", "ofWatch(2, 5) = 1", "ofWatch(3, 5) = 1", "ofWatch(4, 5) = 1",
             "ofWatch(5, 5) = 0", "ofChamber(1, 2) = 3", "ofChamber(2, 2) = 0");
+        // as many as there can be, and the one beyond
+        S.again();
+        S.repeat(5, "chamber(1, 64)");
+        S.repeat(10, "tube(0, 1, 1, 0, 0)");
+        S.repeat(3, "pump(0, 1)");
+        S.calls("set(4, 2, 1)", "watch(2, 0, 0, 0, 9)", "watch(2, 0, 0, 2, 2)", "watch(2, 0, 0, 4, 4)", "watch(2, 0, 0, 2, 3)", "watch(2, 0, 0, 4, 5)",
+            "watch(0, 5, 0, 2, 0)");
+        S.dues("lookout() = 31", "steps(1) = 3", "ofTube(9, 3) = 0", "ofPump(2, 1) = 0", "ofChamber(4, 2) = 0", "drop(5) = 5", "watch(1, 5, 99999999, 3, 3) = 5",
+            "drop(0) = 5", "watch(2, 0, 0, 3, 3) = 5", "lookout() = 47", "steps(1) = 0", "ofPump(0, 1) = 1");
         S.sentence("Promise 11", "A WATCH goes, those above have a number 1 less: how many there are then. -2.");
         S.dues("drop(0) = -2");
         for (int i = 0; i < 6; i++) S.call("watch(2, 0, " + i + ", 0, 0)");
@@ -171,6 +180,11 @@ public final class ActsBoundaryTest {
         S.dues("drop(5) = 5", "ofWatch(4, 2) = 4", "ofWatch(5, 2) = -1", "drop(5) = -2", "drop(0) = 4", "ofWatch(0, 2) = 1", "ofWatch(3, 2) = 4",
             "ofWatch(4, 2) = -1", "drop(1) = 3", "ofWatch(0, 2) = 1", "ofWatch(1, 2) = 3", "ofWatch(2, 2) = 4", "drop(0) = 2", "drop(0) = 1",
             "ofWatch(0, 2) = 4", "drop(1) = -2", "drop(0) = 0", "drop(0) = -2", "count(3) = 0");
+        // how often it was done goes along with a watch, and goes with it
+        S.again("chamber(1, 0)", "pump(0, 1)", "watch(2, 0, 9, 2, 0)", "watch(2, 0, 0, 2, 0)", "watch(2, 0, 1, 3, 0)", "watch(2, 0, 1, 2, 0)");
+        S.dues("steps(3) = 5", "ofWatch(0, 5) = 0", "ofWatch(1, 5) = 1", "ofWatch(2, 5) = 2", "ofWatch(3, 5) = 2", "drop(0) = 3", "ofWatch(0, 5) = 1",
+            "ofWatch(1, 5) = 2", "ofWatch(2, 5) = 2", "ofWatch(3, 5) = -1", "watch(0, 0, 0, 0, 0) = 3", "ofWatch(3, 5) = 0", "drop(3) = 3", "drop(2) = 2",
+            "watch(0, 0, 0, 0, 0) = 2", "ofWatch(2, 5) = 0", "ofWatch(1, 5) = 2", "ofWatch(0, 5) = 1");
     }
 
     private static void steps() {
@@ -311,6 +325,13 @@ public final class ActsBoundaryTest {
             "note(2, 0) = -2", "status() = -2", "note(0, -1) = -1", "status() = 0", "image(2) = -1", "status() = -1", "image(0) = 1",
             "status() = 0", "back(1) = -4", "status() = -4", "back(0) = 1", "status() = 0", "undo() = -4", "status() = -4",
             "noteAll() = 2", "status() = 0", "undo() = 12", "status() = 0");
+        // each of them, not REFUSED, right after one that was
+        for (String act : new String[] {"chamber(0, 0)", "tube(0, 1, 1, 0, 0)", "pump(0, 1)", "curve(0, 0, 1)", "set(0, 0, 1)", "turn(0)", "run(0)",
+            "leak(0, 1)", "watch(0, 0, 0, 0, 0)", "drop(0)", "steps(1)", "note(0, -1)", "noteAll()", "undo()", "image(1)", "back(1)"}) {
+            S.dues("steps(0) = -1", "status() = -1");
+            S.call(act);
+            S.due("status()", 0);
+        }
         // what only asks leaves it as it is
         S.dues("drop(0) = -2");
         for (String ask : new String[] {"pressure(9, 0)", "reading(9)", "flow(0, 0)", "drawn(0, 0)", "stage(0)", "between(0, 1, 0)",

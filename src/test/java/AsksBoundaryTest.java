@@ -162,6 +162,10 @@ public final class AsksBoundaryTest {
         S.dues("place(1) = 0", "set(2, 0, 1) = 0", "place(1) = 2", "set(1, 0, 1) = 0", "place(1) = 0", "place(40) = 0");
         S.again(TWO);
         S.dues("place(1) = 0", "place(40) = 0", "set(0, 0, 0) = 10", "place(1) = 1");
+        S.sentence("Promise 28", "one PUMP more (one SPEED 1 .. 40), as helped() takes it", TWO);
+        S.answered("place(#)", 1, 40, -1);
+        S.calls("pump(0, 1)", "pump(0, 1)");
+        S.dues("pump(0, 1) = -5", "place(1) = 0", "place(40) = 0", "helped(0, 40, 0) = 276", "count(2) = 3");
         S.sentence("Promise 28", "(at which it would HUNT, WEIGHT be above 160: none). NONE (none; others).", Script.HUNTING);
         // 15 with one more: by 2 + 1 it is 5, by 4 + 1 it is 3, the bound is 5
         S.dues("set(0, 0, 15) = 12", "helped(0, 1, 0) = -3", "place(1) = -1", "chamber(0, 0) = 1", "place(1) = -1", "tube(0, 1, 12, 0, 0) = 0",
@@ -199,6 +203,8 @@ public final class AsksBoundaryTest {
             "hottest(99999998) = -1", "hottest(99999999) = 9", "set(0, 0, 0) = 10", "hottest(0) = 0", "set(0, 1, 7) = 640", "hottest(0) = 9");
         S.again(Script.HUNTING);
         S.dues("hottest(2147483647) = -1");
+        S.again();
+        S.dues("hottest(-1) = -1", "hottest(-2147483648) = -1", "hottest(0) = 9");
         S.sentence("Promise 30", "The greatest FEED 0 .. 99 that a CHAMBER could have now, so that READINGS of all are n or less (none HUNTS).", TWO);
         S.dues("fed(0, 8999) = 9", "fed(0, 9000) = 10", "fed(0, 75749) = 98", "fed(0, 75750) = 99", "fed(0, 2147483647) = 99", "fed(0, 1500) = 0",
             "fed(1, 9000) = 6", "fed(1, 7500) = 0", "ofChamber(0, 0) = 10");
@@ -216,6 +222,9 @@ public final class AsksBoundaryTest {
             "bears(1, 23999) = 59", "count(6) = 60", "count(5) = 0");
         S.again(Script.HUNTING);
         S.dues("bears(0, 4999) = -1", "bears(0, 5000) = 8", "bears(0, 18000) = 60");
+        S.sentence("Promise 31", "in place of the one there is, so that READINGS of all are n or less (none HUNTS).", Script.HUNTING);
+        S.dues("set(0, 0, 8) = 12", "bears(0, 4000) = 0", "bears(0, 4499) = 0", "bears(0, 4500) = 1", "bears(0, 4999) = 1", "bears(0, 5000) = 12",
+            "leak(0, 3) = 0", "count(11) = 1", "bears(0, 4999) = 1");
         S.sentence("Promise 31", "NONE (by none; n below 0; no such JOINT).", TWO);
         S.dues("bears(0, 8999) = -1", "bears(10, 8999) = -1", "bears(0, -1) = -1", "bears(0, -2147483648) = -1");
         S.answered("bears(#, 9000)", 0, 1, -1);
@@ -302,6 +311,8 @@ public final class AsksBoundaryTest {
             "until(99999998) = -1", "until(99999999) = 0");
         S.again(Script.HUNTING);
         S.dues("until(2147483647) = -1");
+        S.again();
+        S.dues("until(-1) = -1", "until(-2147483648) = -1", "until(0) = 0");
     }
 
     private static void logs() {

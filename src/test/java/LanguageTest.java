@@ -105,6 +105,8 @@ public final class LanguageTest {
         Set<String> known = Set.of("Arrays.fill", "System.arraycopy", "Math.max", "Math.min", "Math.abs", "Integer.bitCount",
             "Integer.numberOfTrailingZeros");
         while (library.find()) must(known.contains(library.group()), "rule 4: " + library.group());
+        Matcher filled = Pattern.compile("Arrays\\.fill\\((\\w+)").matcher(source);
+        while (filled.find()) must(!source.contains("boolean[] " + filled.group(1)), "rule 4: fill over " + filled.group(1));
         for (int i = 0; i < source.length(); i++) must(source.charAt(i) < 128, "rule 4: a sign above 127 at " + i);
     }
 

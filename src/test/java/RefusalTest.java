@@ -14,23 +14,6 @@ public final class RefusalTest {
     private RefusalTest() {
     }
 
-    private static long call(VacuumDesk desk, String text) {
-        int open = text.indexOf('(');
-        String inside = text.substring(open + 1, text.length() - 1).trim();
-        String[] parts = inside.isEmpty() ? new String[0] : inside.split(",");
-        Object[] args = new Object[parts.length];
-        Class<?>[] types = new Class<?>[parts.length];
-        for (int i = 0; i < parts.length; i++) {
-            args[i] = Integer.parseInt(parts[i].trim());
-            types[i] = int.class;
-        }
-        try {
-            return ((Number) VacuumDesk.class.getMethod(text.substring(0, open), types).invoke(desk, args)).longValue();
-        } catch (ReflectiveOperationException e) {
-            throw new IllegalStateException(text, e);
-        }
-    }
-
     private static void say(String fault) {
         wrong++;
         System.out.println("RefusalTest: " + fault);
@@ -77,7 +60,7 @@ public final class RefusalTest {
 
     private static VacuumDesk built(String... calls) {
         VacuumDesk desk = new VacuumDesk();
-        for (String text : calls) call(desk, text);
+        for (String text : calls) Script.invoke(desk, text);
         return desk;
     }
 
@@ -104,7 +87,7 @@ public final class RefusalTest {
             int at = row.lastIndexOf('=');
             String text = row.substring(0, at).trim();
             int by = Integer.parseInt(row.substring(at + 1).trim());
-            long got = call(desk, text);
+            long got = Script.invoke(desk, text);
             told[by == -1 ? 13 : by == -2 ? 14 : by == -4 ? 15 : 16]++;
             if (got != by) say(about + ": " + text + " answered " + got + ", due is " + by);
             if (desk.status() != by) say(about + ": after " + text + " status is " + desk.status());
@@ -204,7 +187,7 @@ public final class RefusalTest {
         VacuumDesk asked = new VacuumDesk();
         VacuumDesk quiet = new VacuumDesk();
         for (String act : acts) {
-            if (call(asked, act) != call(quiet, act)) say(about + ": " + act + " differs once all has been asked");
+            if (Script.invoke(asked, act) != Script.invoke(quiet, act)) say(about + ": " + act + " differs once all has been asked");
             int status = asked.status();
             int refused = asked.count(13) + asked.count(14) + asked.count(15) + asked.count(16);
             if (!all(asked).equals(all(asked))) say(about + ": asked twice after " + act + " it answers otherwise");

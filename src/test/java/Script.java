@@ -65,8 +65,8 @@ final class Script {
         return document;
     }
 
-    /** A call whose answer is asked of both desks, but not told beforehand. */
-    long call(String text) {
+    /** A call, written as text, of a VacuumDesk or a PlainDesk. */
+    static long invoke(Object desk, String text) {
         int open = text.indexOf('(');
         String inside = text.substring(open + 1, text.length() - 1).trim();
         String[] parts = inside.isEmpty() ? new String[0] : inside.split(",");
@@ -77,15 +77,19 @@ final class Script {
             types[i] = int.class;
         }
         try {
-            String name = text.substring(0, open);
-            Method method = VacuumDesk.class.getMethod(name, types);
-            long got = ((Number) method.invoke(desk, args)).longValue();
-            long plain = ((Number) PlainDesk.class.getMethod(name, types).invoke(model, args)).longValue();
-            if (got != plain) say(text + " answered " + got + ", the model " + plain);
-            return got;
+            Method method = desk.getClass().getMethod(text.substring(0, open), types);
+            return ((Number) method.invoke(desk, args)).longValue();
         } catch (ReflectiveOperationException e) {
-            throw new IllegalStateException(label + ": " + text, e);
+            throw new IllegalStateException(text, e);
         }
+    }
+
+    /** A call whose answer is asked of both desks, but not told beforehand. */
+    long call(String text) {
+        long got = invoke(desk, text);
+        long plain = invoke(model, text);
+        if (got != plain) say(text + " answered " + got + ", the model " + plain);
+        return got;
     }
 
     void say(String fault) {

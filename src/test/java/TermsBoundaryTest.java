@@ -40,6 +40,12 @@ public final class TermsBoundaryTest {
         S.dues("ofChamber(0, 3) = 0", "set(0, 1, 64) = 63", "ofChamber(0, 3) = 1", "set(0, 1, 127) = 64", "ofChamber(0, 3) = 1",
             "set(0, 1, 128) = 127", "ofChamber(0, 3) = 2", "set(0, 1, 7) = 128", "set(0, 2, 9) = 1", "ofChamber(0, 3) = 0",
             "set(0, 1, 8) = 7", "ofChamber(0, 3) = 1");
+        S.sentence("I", "a FEED 0 .. 99, GAS in its walls 0 .. 4,999");
+        S.taken("chamber(#, 0)", 0, 99, -1);
+        S.taken("chamber(0, #)", 0, 4999, -1);
+        S.call("chamber(1, 1)");
+        S.taken("set(0, 0, #)", 0, 99, -1);
+        S.taken("set(0, 1, #)", 0, 4999, -1);
         S.sentence("I", "a HEAT 0 .. 9 (0 each at first)", "chamber(99, 4999)");
         S.dues("ofChamber(0, 2) = 0", "ofChamber(0, 3) = 99", "set(0, 2, 9) = 0", "ofChamber(0, 2) = 9", "set(0, 2, 0) = 9");
         S.sentence("I", "LOAD: FEED and GAS times HEAT by 64", "chamber(99, 4999)");
@@ -119,6 +125,10 @@ public final class TermsBoundaryTest {
         S.taken("leak(#, 1)", 0, 4, -2);
         S.taken("leak(#, 1)", 10, 19, -2);
         S.dues("leak(19, 7) = 0", "count(5) = 19", "leak(4, 7) = 7", "count(5) = 4");
+        S.sentence("I", "Into each CHAMBER comes its LOAD, the LEAK, if it is there", "chamber(1, 0)", "chamber(1, 0)", "pump(0, 1)", "pump(1, 1)",
+            "tube(0, 1, 1, 0, 0)", "turn(0)");
+        S.dues("reading(0) = 1000", "reading(1) = 1000", "leak(1, 60) = 0", "reading(0) = 1000", "reading(1) = 61000", "leak(10, 1) = 60",
+            "reading(0) = 1500", "reading(1) = 1500", "leak(10, 0) = 1", "reading(0) = 1000", "reading(1) = 1000");
         S.sentence("I", "half of it from the middle of a TUBE at either end (SHUT, too)", "chamber(0, 0)", "chamber(0, 0)",
             "tube(0, 1, 1, 0, 0)", "pump(0, 2)", "pump(1, 2)", "leak(10, 1)");
         S.dues("pressure(0, 0) = 1", "pressure(0, 1) = 4", "pressure(1, 0) = 1", "pressure(1, 1) = 4", "turn(0) = 0",
@@ -230,6 +240,12 @@ public final class TermsBoundaryTest {
             "tube(1, 2, 1, 0, 0)", "tube(2, 3, 1, 0, 0)", "tube(3, 4, 1, 0, 0)");
         S.dues("reduced(0, 4, 1) = 1", "reduced(0, 4, 2) = 4", "tube(4, 0, 12, 0, 0) = 4", "reduced(0, 4, 1) = 49",
             "reduced(0, 4, 2) = 4", "turn(0) = 0", "reduced(0, 4, 0) = 1", "reduced(0, 4, 1) = 12");
+        S.sentence("II", "again and again, as long as anything can be done", "chamber(0, 0)", "chamber(0, 0)", "chamber(0, 0)", "chamber(0, 0)",
+            "chamber(0, 0)", "tube(0, 4, 2, 0, 0)", "tube(4, 3, 2, 0, 0)", "tube(4, 3, 1, 0, 0)", "tube(3, 2, 3, 0, 0)", "tube(2, 1, 3, 0, 0)",
+            "tube(4, 2, 3, 0, 0)");
+        // 1 with 2 are 3, with 3 behind it 3/2, beside 3 that is 9/2; 2, 9/2 and 3 in a row are 18/19
+        S.dues("reduced(0, 1, 0) = 1", "reduced(0, 1, 1) = 18", "reduced(0, 1, 2) = 19", "between(0, 1, 0) = 18", "between(0, 1, 1) = 19",
+            "tube(3, 1, 1, 0, 0) = 6", "reduced(0, 1, 0) = 6", "reduced(0, 1, 1) = 0", "turn(5) = 0", "reduced(0, 1, 0) = 1");
         S.sentence("II", "(What is left in the end is the same, whatever is done first.)", Script.BRIDGE);
         S.dues("reduced(0, 3, 0) = 5", "reduced(0, 3, 1) = 0", "reduced(0, 3, 2) = 0", "reduced(0, 1, 0) = 1", "reduced(0, 1, 1) = 8",
             "reduced(0, 1, 2) = 5", "reduced(1, 0, 1) = 8");
@@ -335,6 +351,14 @@ public final class TermsBoundaryTest {
             "curve(1, 5, 9999)");
         S.dues("reading(0) = 9999000", "trip(0) = 1", "trip(1) = 1", "set(4, 0, 0) = 1", "reading(0) = 9998000", "trip(1) = -1",
             "steps(1) = 0", "undo() = 10", "undo() = 4", "steps(1) = 1", "ofPump(1, 8) = 1");
+        S.sentence("III", "(b) By PRESSURES as they are then", "chamber(4, 0)", "pump(0, 1)", "pump(0, 3)", "curve(0, 5, 4)", "watch(2, 0, 1, 2, 1)",
+            "watch(0, 0, 3999, 3, 1)");
+        // the first watch stops pump 1, the second starts it again: at the end of (a) it is 1, no trip
+        S.dues("steps(2) = 2", "ofPump(0, 1) = 1", "log(0, 0) = 1000", "drop(1) = 1", "steps(1) = 2", "ofPump(0, 8) = 1", "log(0, 0) = 99999999",
+            "log(0, 1) = 1000");
+        S.sentence("III", "(c) The READINGS are put into the LOG", "chamber(4, 640)", "pump(0, 1)", "pump(0, 3)", "curve(1, 5, 6)", "set(0, 2, 2)");
+        // 4 and 20 by 4 are 6, so pump 1 trips, and 24 are logged, by the gas as it was ahead of (d)
+        S.dues("reading(0) = 6000", "steps(1) = 1", "log(0, 0) = 24000", "reading(0) = 23000");
         S.sentence("III", "(all at once; not, when it HUNTS)", "chamber(12, 0)", "pump(0, 1)", "pump(0, 2)", "pump(0, 3)", "curve(0, 5, 2)",
             "curve(1, 5, 2)", "curve(2, 5, 3)");
         // by 6 the pressure is 2: two trip at once; then it is 4, and the third goes one step later
@@ -373,7 +397,14 @@ public final class TermsBoundaryTest {
             "steps(40) = 0", "count(4) = 9999", "steps(40) = -4", "count(8) = 40");
     }
 
+    private static void constants() {
+        S.sentence("III", "The constants: `NONE = -1`: There is none.", "chamber(0, 0)");
+        if (VacuumDesk.NONE != -1) S.say("NONE is " + VacuumDesk.NONE);
+        S.dues("ofChamber(0, 5) = " + VacuumDesk.NONE, "count(5) = " + VacuumDesk.NONE, "note(0, " + VacuumDesk.NONE + ") = " + VacuumDesk.NONE);
+    }
+
     public static void main(String[] args) {
+        constants();
         howMany();
         loads();
         tubesAndPieces();
