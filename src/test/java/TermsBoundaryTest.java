@@ -287,6 +287,12 @@ public final class TermsBoundaryTest {
             "note(1, 0)");
         // at joint 0 strengths 1 .. 20, the tube open: readings apart for 1 .. 9, 10 .. 19 hunt, 20 is 5
         S.dues("suspects(0) = 60", "suspects(1) = 0", "probe(0) = 0", "probe(1) = 10");
+        S.sentence("II", "READINGS of all CHAMBERS that are NOTED", "chamber(0, 0)", "chamber(0, 0)", "tube(0, 1, 1, 0, 0)", "tube(0, 1, 1, 0, 0)",
+            "pump(1, 4)", "curve(0, 2, 1)", "chamber(9, 0)", "pump(2, 1)", "noteAll()", "reading(2)", "undo()", "undo()", "undo()");
+        // nothing is noted any more: alike by any stage of the pump, and a chamber that is undone is not asked
+        S.dues("count(7) = 0", "count(0) = 2", "suspects(0) = 240", "tried(0, 7, 1) = 1750", "tried(0, 8, 1) = 8000", "probe(0) = 0", "probe(1) = 20",
+            "note(1, 750) = -1", "suspects(0) = 4", "probe(0) = 0", "probe(1) = 4", "note(1, -1) = 750", "note(0, 2250) = -1", "suspects(0) = 1",
+            "probe(1) = 1");
         S.sentence("II", "were a TUBE turned (OPEN, if it is SHUT, SHUT, if it is OPEN)", Script.THREE_IN_A_ROW);
         S.dues("note(2, 4000) = -1", "probe(0) = 0", "probe(1) = 3", "turn(0) = 0", "note(2, 2000) = 4000", "probe(0) = 1",
             "probe(1) = 2");
