@@ -974,12 +974,8 @@ public final class VacuumDesk {
             return chamber[c][FEED] + fromWalls(c);
         }
 
-        /** Twice what comes into a chamber, for half a leak need not be whole. */
-        int twiceIn(int c) {
-            return 2 * load(c) + twiceLeak(c);
-        }
-
-        private int twiceLeak(int c) {
+        /** Twice what leaks into a chamber, for half a leak need not be whole. */
+        int twiceLeak(int c) {
             if (joint == c) {
                 return 2 * strength;
             }
@@ -1101,8 +1097,6 @@ public final class VacuumDesk {
         private static final int BOUNDS = SHAPE;
         private static final int INFLOW = BOUNDS + MOST_PUMPS * 2;
         private static final int KEY = INFLOW + MOST_CHAMBERS;
-        /** A row of stages counts like a number of three digits, pump 0's the first. */
-        private static final int[] DIGIT = {9, 3, 1};
 
         private final int[] key;
         private final int[] fresh;
@@ -1230,7 +1224,7 @@ public final class VacuumDesk {
                 }
             }
             for (int c = 0; c < line.chambers; c++) {
-                fresh[INFLOW + c] = line.twiceIn(c);
+                fresh[INFLOW + c] = 2 * line.load(c) + line.twiceLeak(c);
             }
         }
 
@@ -1251,8 +1245,10 @@ public final class VacuumDesk {
             return key[ENGINES + p * ENGINE_CELLS + Line.AT];
         }
 
+        /** A row of stages counts like a number of three digits, pump 0's the first. */
         private static int stageIn(int r, int p) {
-            return r / DIGIT[p] % 3;
+            int digits = p == 0 ? r / 9 : p == 1 ? r / 3 : r;
+            return digits % 3;
         }
 
         private void tellPressures() {

@@ -1,3 +1,11 @@
+import com.sun.source.tree.CompilationUnitTree;
+import com.sun.source.tree.MethodInvocationTree;
+import com.sun.source.tree.MethodTree;
+import com.sun.source.tree.Tree;
+import com.sun.source.util.JavacTask;
+import com.sun.source.util.TreePath;
+import com.sun.source.util.TreePathScanner;
+import com.sun.source.util.Trees;
 import java.lang.reflect.Constructor;
 import java.lang.reflect.Field;
 import java.lang.reflect.Method;
@@ -5,10 +13,17 @@ import java.lang.reflect.Modifier;
 import java.nio.file.Files;
 import java.nio.file.Path;
 import java.util.Arrays;
+import java.util.HashMap;
+import java.util.HashSet;
+import java.util.Map;
 import java.util.Set;
 import java.util.TreeSet;
 import java.util.regex.Matcher;
 import java.util.regex.Pattern;
+import javax.lang.model.element.Element;
+import javax.tools.JavaCompiler;
+import javax.tools.StandardJavaFileManager;
+import javax.tools.ToolProvider;
 
 /** The rules of LANGUAGE.md that can be seen from the source or from the compiled class. */
 public final class LanguageTest {
@@ -122,11 +137,69 @@ public final class LanguageTest {
         }
     }
 
+    /** For each method of the file the methods of the file that it calls, as the compiler sees them. */
+    private static Map<Element, Set<Element>> callsInside() throws Exception {
+        Map<Element, Set<Element>> calls = new HashMap<>();
+        JavaCompiler compiler = ToolProvider.getSystemJavaCompiler();
+        try (StandardJavaFileManager files = compiler.getStandardFileManager(null, null, null)) {
+            JavacTask task = (JavacTask) compiler.getTask(null, files, null, null, null, files.getJavaFileObjects(SOURCE));
+            Iterable<? extends CompilationUnitTree> units = task.parse();
+            task.analyze();
+            Trees trees = Trees.instance(task);
+            for (CompilationUnitTree unit : units) new CallScanner(trees, calls).scan(unit, null);
+        }
+        for (Set<Element> called : calls.values()) called.retainAll(calls.keySet());
+        return calls;
+    }
+
+    private static final class CallScanner extends TreePathScanner<Void, Element> {
+        private final Trees trees;
+        private final Map<Element, Set<Element>> calls;
+
+        CallScanner(Trees trees, Map<Element, Set<Element>> calls) {
+            this.trees = trees;
+            this.calls = calls;
+        }
+
+        @Override
+        public Void visitMethod(MethodTree method, Element outer) {
+            Element own = trees.getElement(getCurrentPath());
+            calls.put(own, new HashSet<>());
+            return super.visitMethod(method, own);
+        }
+
+        @Override
+        public Void visitMethodInvocation(MethodInvocationTree call, Element own) {
+            Tree name = call.getMethodSelect();
+            if (own != null) calls.get(own).add(trees.getElement(new TreePath(getCurrentPath(), name)));
+            return super.visitMethodInvocation(call, own);
+        }
+    }
+
+    /** How many calls stand open at most below and with this one; the guard ends a recursion. */
+    private static int depth(Map<Element, Set<Element>> calls, Element method, int open) {
+        int deepest = 0;
+        for (Element called : calls.get(method))
+            if (open < 20) deepest = Math.max(deepest, depth(calls, called, open + 1));
+        return deepest + 1;
+    }
+
+    private static void callDepth() throws Exception {
+        Map<Element, Set<Element>> calls = callsInside();
+        int edges = calls.values().stream().mapToInt(Set::size).sum();
+        must(calls.size() > 100 && edges > 100, "only " + edges + " calls of " + calls.size() + " methods were found");
+        for (Element method : calls.keySet()) {
+            int depth = depth(calls, method, 1);
+            must(depth <= 8, "rule 11: calls go " + depth + " deep from " + method);
+        }
+    }
+
     public static void main(String[] args) throws Exception {
         face();
         classes();
         words();
         methodLengths();
+        callDepth();
         System.out.println(wrong == 0 ? "LanguageTest: all rules hold that it looks at" : "LanguageTest: " + wrong + " faults");
         if (wrong != 0) System.exit(1);
     }
